@@ -916,7 +916,8 @@ public final class EggGarden {
             kind = DIGITS;
             value = 0;
             while (at < length && tape[at] >= '0' && tape[at] <= '9') {
-                value = Math.min(NEVER, value * 10 + tape[at] - '0');
+                // Kept far above all bounds, so that no length of digits runs over.
+                value = value >= NEVER ? NEVER : value * 10 + tape[at] - '0';
                 at++;
             }
         }
