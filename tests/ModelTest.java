@@ -69,8 +69,33 @@ public final class ModelTest {
     private void run() {
         int calls = 20 + random.nextInt(140);
         tell(random.nextInt(10) == 0 ? brokenText() : goodText());
+        if (random.nextInt(3) == 0) {
+            crowd();
+        }
         for (int i = 0; i < calls && !failed; i++) {
             callOne(random.nextInt(44));
+        }
+    }
+
+    /** As many EGGS as there may be, and where one would hide two more. */
+    private void crowd() {
+        int cells = garden.count(0) * garden.count(1);
+        for (int i = 0; i < 16; i++) {
+            int cell = random.nextInt(cells);
+            int color = upTo(3);
+            int hard = upTo(6);
+            same("hide(" + cell + ", " + color + ", " + hard + ")", garden.hide(cell, color, hard),
+                    model.hide(cell, color, hard));
+        }
+        int before = upTo(12);
+        same("go(" + before + ")", garden.go(before), model.go(before));
+        int n = 1 + upTo(1);
+        int color = upTo(3);
+        int hard = upTo(5);
+        int t = n == 1 || cells < 12 ? about(1, 40) : about(1, 12);
+        for (int what = 0; what < 3; what++) {
+            same("place(" + n + ", " + color + ", " + hard + ", " + t + ", " + what + ")",
+                    garden.place(n, color, hard, t, what), model.place(n, color, hard, t, what));
         }
     }
 

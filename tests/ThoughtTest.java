@@ -168,6 +168,14 @@ public final class ThoughtTest {
         Check.due("then alike", late.later(9, 1), 0);
         Check.due("of the oldest the first, b and not c", Check.garden("garden 3 1;egg red 1 0 0;egg red 2 0 0;"
                 + "child a 2 0 5 0 3;child b 0 0 9 1 0;child c 0 0 9 0 0;").later(9, 0), 1);
+        // b leaves one to a if a comes first, or as soon as b.
+        String greedy = "garden 1 1;egg red 0 0 0;egg red 0 0 0;child b 0 0 9 0 0;law see 100-many*60*(age<8);";
+        EggGarden last = Check.garden(greedy.replace("child b", "child a 0 0 5 0 30;child b"));
+        Check.due("thirty seconds later", last.later(50, 0), 30);
+        Check.due("then alike", last.later(50, 1), 0);
+        EggGarden never = Check.garden(greedy.replace("child b", "child a 0 0 5 0 31;child b"));
+        Check.due("thirty are not enough", never.later(50, 0), 0);
+        Check.due("so unlike", never.later(50, 1), 2);
         Check.due("later(0, 0)", g.later(0, 0), EggGarden.NONE);
         Check.due("later(201, 0)", g.later(201, 0), EggGarden.NONE);
         Check.due("later(200, 0)", g.later(200, 0) >= 0, true);

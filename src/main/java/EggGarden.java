@@ -1739,9 +1739,7 @@ public final class EggGarden {
     private static final class Trials {
         private static final int SUN_EVENT = -1;
         private static final int ROOM = MAX_EGGS + 2;
-        private static final int UNKNOWN = 0;
-        private static final int NO = 1;
-        private static final int YES = 2;
+        private static final int SLOTS = MAX_EGGS + MAX_CELLS;
 
         private final Plan plan;
         private final Morning now;
@@ -1756,8 +1754,10 @@ public final class EggGarden {
         private final boolean[] gone = new boolean[ROOM];
         private final int[] hiddenAt = new int[MAX_CELLS];
         private final int[] has = new int[MAX_CHILDREN];
-        /** Whether a CHILD that has so many takes an EGG (a new one: by its CELL) SURE. */
-        private final byte[] takes = new byte[MAX_CHILDREN * (MAX_EGGS + MAX_CELLS) * (ROOM + 1)];
+        /** Of each CHILD and EGG (a new one: by its CELL), by how many the CHILD has: whether ODDS were asked. */
+        private final int[] asked = new int[MAX_CHILDREN * SLOTS];
+        /** Of those asked, whether ODDS are 50 and more. */
+        private final int[] sure = new int[MAX_CHILDREN * SLOTS];
         private int newColor;
         private int newHard;
 
@@ -1795,8 +1795,9 @@ public final class EggGarden {
         void findPlaces(int n, int color, int hard, int t) {
             newColor = color;
             newHard = hard;
-            for (int i = 0; i < takes.length; i++) {
-                takes[i] = UNKNOWN;
+            for (int i = 0; i < asked.length; i++) {
+                asked[i] = 0;
+                sure[i] = 0;
             }
             recordPath(t);
             least = NEVER;
@@ -1883,16 +1884,17 @@ public final class EggGarden {
         }
 
         private boolean takesSurely(int c, int e) {
-            int slot = e < now.eggCount ? e : MAX_EGGS + eggCell[e];
-            int at = (c * (MAX_EGGS + MAX_CELLS) + slot) * (ROOM + 1) + has[c];
-            if (at < 0 || at >= takes.length) {
-                return false;
-            }
-            if (takes[at] == UNKNOWN) {
+            boolean old = e < now.eggCount;
+            int at = c * SLOTS + (old ? e : MAX_EGGS + eggCell[e]);
+            int bit = 1 << has[c];
+            if ((asked[at] & bit) == 0) {
+                asked[at] |= bit;
                 nameTried(c, e);
-                takes[at] = plan.oddsAsNamed() >= 50 ? (byte) YES : (byte) NO;
+                if (plan.oddsAsNamed() >= 50) {
+                    sure[at] |= bit;
+                }
             }
-            return takes[at] == YES && now.mayTake(c, e < now.eggCount ? now.eggs[e].color : newColor);
+            return (sure[at] & bit) != 0 && now.mayTake(c, old ? now.eggs[e].color : newColor);
         }
 
         private void nameTried(int c, int e) {
