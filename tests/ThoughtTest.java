@@ -141,6 +141,10 @@ public final class ThoughtTest {
             Check.due("place of none such", g.place(w[0], w[1], w[2], w[3], w[4]), EggGarden.NONE);
         }
         Check.due("no children", Check.garden("garden 1 1;").place(1, 0, 0, 1, 0), EggGarden.NONE);
+        EggGarden melts = Check.garden("garden 2 1;egg red 1 0 0;egg red 1 0 0;sun 0;child a 0 0 9 1 0;child b 0 0 9 0 0;");
+        Check.due("what is there melts, too", melts.place(1, 0, 9, 3, 0), 0);
+        EggGarden tree = Check.garden("garden 2 1;tree 1 0;child a 1 0 5 0 0;child b 0 0 5 0 0;");
+        Check.due("a can't see it in the tree, b sees the other one", tree.place(2, 0, 4, 3, 0), 1);
         EggGarden full = Check.garden("garden 8 6;child a 0 0 9 3 0;child b 7 5 9 3 0;child c 7 0 3 1 0;child d 0 5 3 2 0;");
         for (int i = 0; i < 16; i++) {
             full.hide(i * 3, i % 4, i % 6);

@@ -545,6 +545,8 @@ public final class EggGarden {
         int start;
         int looks;
         int has;
+        /** Where its last LOOK that was SURE found nothing: another one there can't find more. */
+        int emptyCell = NONE;
 
         void copyFrom(Child other) {
             letters = other.letters;
@@ -554,6 +556,7 @@ public final class EggGarden {
             start = other.start;
             looks = other.looks;
             has = other.has;
+            emptyCell = other.emptyCell;
         }
     }
 
@@ -1452,7 +1455,8 @@ public final class EggGarden {
         private void look(int c, boolean sure) {
             Child looking = children[c];
             int cell = looking.cell;
-            for (int e = 0; e < eggCount; e++) {
+            int before = looking.has;
+            for (int e = 0; e < eggCount && !(sure && looking.emptyCell == cell); e++) {
                 Egg there = eggs[e];
                 if (there.owner == HIDDEN && there.cell == cell && mayTake(c, there.color)) {
                     int bar = sure ? 49 : draw() % 100;
@@ -1463,6 +1467,7 @@ public final class EggGarden {
                     }
                 }
             }
+            looking.emptyCell = sure && looking.has == before ? cell : NONE;
             looking.looks++;
             lookedAt[cell] = true;
             weight[cell] = plan.weightBehindLook(weight[cell], c, cell);
