@@ -13,6 +13,8 @@ public final class ModelTest {
     private final Model model = new Model();
     private final StringBuilder log = new StringBuilder();
     private boolean failed = false;
+    /** How seldom numbers are beyond their bounds. */
+    private int tame = 40;
 
     private ModelTest(long seed) {
         random = new Random(seed);
@@ -53,7 +55,7 @@ public final class ModelTest {
 
     /** Mostly within, at times just beyond, or far. */
     private int about(int low, int high) {
-        int dice = random.nextInt(40);
+        int dice = random.nextInt(tame);
         if (dice == 0) {
             return low - 1;
         }
@@ -68,6 +70,7 @@ public final class ModelTest {
 
     private void run() {
         int calls = 20 + random.nextInt(140);
+        tame = random.nextInt(10) == 0 ? 6 : 40;
         tell(random.nextInt(10) == 0 ? brokenText() : goodText());
         if (random.nextInt(3) == 0) {
             crowd();

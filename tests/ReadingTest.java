@@ -119,6 +119,8 @@ public final class ReadingTest {
         Check.fault("rule own 1;", 1, 9);
         Check.fault("rule own;\tline 1;", 1, 9);
         Check.fault("see 1;", 1, 0);
+        Check.fault("red 5;", 1, 0);
+        Check.fault("abc 5;", 1, 0);
         Check.fault("7;", 1, 0);
         Check.fault("garden 2;", 1, 8);
         Check.fault("garden 2 -1;", 1, 9);
@@ -148,6 +150,15 @@ public final class ReadingTest {
         Check.fault("garden 3 2;tree 2 2;", 2, 18);
         Check.fault("child a 6 0 1 1 1;", 2, 8);
         Check.fault("child a 0 5 1 1 1;", 2, 10);
+        Check.fault("child a 0 0 0 1 1;", 2, 12);
+        Check.fault("child a 0 0 16 1 1;", 2, 12);
+        Check.fault("child a 0 0 1 4 1;", 2, 14);
+        Check.fault("child a 0 0 1 1 100;", 2, 16);
+        Check.fault("egg red 0 0 10;", 2, 12);
+        Check.fault("line 7;", 2, 5);
+        Check.fault("dog 0;", 2, 4);
+        Check.fault("sun 1000;", 2, 4);
+        Check.fault("seed 100000;", 2, 5);
         Check.fault("dog 100;", 2, 4);
         Check.fault("seed 99999999999999999999;", 2, 5);
         Check.fault("seed 4294967296;", 2, 5);
