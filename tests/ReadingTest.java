@@ -10,6 +10,7 @@ public final class ReadingTest {
         faultsOfTwice();
         faultsOfLaws();
         firstFaultCounts();
+        cutTexts();
         names();
         Check.end();
     }
@@ -252,6 +253,29 @@ public final class ReadingTest {
         Check.fault(knots + " + 7;law hide 1;", 2, knots.length() + 3);
         Check.fault(knots + ";law joy (((not age", 2, knots.length() + 16);
         Check.fault(knots + ";law joy 9 9", 1, knots.length() + 11);
+    }
+
+    /** What stands behind the first n bytes does not count. */
+    private static void cut(String text, int n, int number, int place) {
+        EggGarden g = new EggGarden();
+        Check.feed(g, text);
+        Check.due("the first " + n + " of " + text, g.text(n), EggGarden.NONE);
+        Check.due("fault(0)", g.fault(0), number);
+        Check.due("fault(1)", g.fault(1), place);
+    }
+
+    private static void cutTexts() {
+        cut("sun 77;", 5, 1, 5);
+        cut("sun 1000;", 7, 1, 7);
+        cut("rule own;", 7, 1, 5);
+        cut("rule own;", 8, 1, 8);
+        cut("law see 1<=2;", 10, 1, 10);
+        cut("law see 1<>2;", 10, 1, 10);
+        cut("law see 1>=2;", 10, 1, 10);
+        String deep = "((((((((" + "not ".repeat(63) + "1" + "))))))))";
+        EggGarden g = Check.garden("law hide " + deep + ";");
+        Check.due("knots", g.count(4), 64);
+        Check.due("denied 63 times", g.law(2, 0, 0), 0);
     }
 
     private static void firstFaultCounts() {

@@ -209,6 +209,10 @@ public final class ThoughtTest {
         Check.due("behind the line the small one has more", line.tears(2, 4), 1);
         Check.due("kindest", line.kindest(4), 2);
         Check.due("the rule stays", line.count(11), 0);
+        EggGarden eager = Check.garden("garden 1 1;egg red 0 0 9;egg red 0 0 0;child a 0 0 9 0 0;child b 0 0 9 0 9;"
+                + "law see 100*(hard=0)+many*60;");
+        Check.due("who has one looks better the next time", eager.tears(0, 1), 1);
+        Check.due("who has one looks better the next time", eager.tears(0, 2), 2);
         EggGarden same = Check.garden("child a 0 0 9 0 0;child b 0 0 9 0 0;");
         Check.due("the first of several", same.kindest(3), 0);
     }
@@ -314,6 +318,12 @@ public final class ThoughtTest {
         none.go(1);
         Check.due("only one has more", none.trade(0), -2);
         Check.due("only one has more", none.trade(3), -2);
+        EggGarden even = Check.garden("garden 2 1;egg blue 0 0 0;egg green 1 0 0;child a 0 0 9 0 0;child b 1 0 9 0 0;");
+        even.go(1);
+        Check.due("to a both are worth the same", even.trade(0), -2);
+        EggGarden other = Check.garden("garden 2 1;egg green 0 0 0;egg red 1 0 0;child a 0 0 9 0 0;child b 1 0 9 0 0;");
+        other.go(1);
+        Check.due("to b both are worth the same", other.trade(0), -2);
     }
 
     private static void sharing() {
