@@ -13,6 +13,7 @@ public final class ModelTest {
     private final Model model = new Model();
     private final StringBuilder log = new StringBuilder();
     private boolean failed = false;
+    private int asked = 0;
     /** How seldom numbers are beyond their bounds. */
     private int tame = 40;
 
@@ -42,6 +43,7 @@ public final class ModelTest {
         if (failed) {
             return;
         }
+        asked++;
         log.append(call).append(" = ").append(got).append('\n');
         if (got != want) {
             failed = true;
@@ -75,14 +77,15 @@ public final class ModelTest {
         if (random.nextInt(3) == 0) {
             crowd();
         }
-        for (int i = 0; i < calls && !failed; i++) {
+        // An object is used for at most 512 calls; one turn of this loop makes less than a hundred.
+        for (int i = 0; i < calls && !failed && asked < 410; i++) {
             callOne(random.nextInt(44));
         }
     }
 
     /** As many EGGS as there may be, and where one would hide two more. */
     private void crowd() {
-        int cells = garden.count(0) * garden.count(1);
+        int cells = model.count(0) * model.count(1);
         for (int i = 0; i < 16; i++) {
             int cell = random.nextInt(cells);
             int color = upTo(3);
@@ -241,7 +244,7 @@ public final class ModelTest {
     private void askState(int which) {
         int child = about(0, 3);
         int egg = about(0, 15);
-        int cell = about(0, Math.max(1, garden.count(0) * garden.count(1) - 1));
+        int cell = about(0, Math.max(1, model.count(0) * model.count(1) - 1));
         int what = about(0, 4);
         switch (which) {
             case 0, 1 -> same("cell(" + cell + ", " + what + ")", cellOf(() -> garden.cell(cell, what)),
@@ -268,7 +271,7 @@ public final class ModelTest {
     }
 
     private void change(int which) {
-        int cell = about(0, garden.count(0) * garden.count(1) - 1);
+        int cell = about(0, model.count(0) * model.count(1) - 1);
         switch (which) {
             case 12, 13 -> {
                 int color = about(0, 3);
@@ -306,7 +309,7 @@ public final class ModelTest {
         int t = random.nextInt(4) == 0 ? about(1, 200) : about(1, 20);
         switch (which) {
             case 22 -> {
-                for (int cell = -1; cell < garden.count(0) * garden.count(1) + 1; cell++) {
+                for (int cell = -1; cell < model.count(0) * model.count(1) + 1; cell++) {
                     same("weight(" + cell + ")", garden.weight(cell), model.weight(cell));
                 }
             }
@@ -371,11 +374,11 @@ public final class ModelTest {
                         garden.see(seconds, child, many, atLeast), model.see(seconds, child, many, atLeast));
             }
             case 36 -> {
-                int seen = about(0, Math.max(0, garden.count(12) - 1));
+                int seen = about(0, Math.max(0, model.count(12) - 1));
                 same("strike(" + seen + ")", garden.strike(seen), model.strike(seen));
             }
             case 37 -> {
-                int n = about(-1, garden.count(12));
+                int n = about(-1, model.count(12));
                 same("known(" + n + ")", garden.known(n) ? 1 : 0, model.known(n) ? 1 : 0);
             }
             case 38 -> same("starts(" + child + ")", garden.starts(child), model.starts(child));

@@ -345,7 +345,7 @@ public final class ThoughtTest {
                 + "child b 4 4 12 1 2;dog 3;sun 7;seed 99;law see 90-hard*9+age-many*20;law keep 100-many;");
         EggGarden h = Check.garden("garden 5 5;egg red 1 1 2;egg blue 2 2 4;egg gold 3 3 6;child a 0 0 5 2 0;"
                 + "child b 4 4 12 1 2;dog 3;sun 7;seed 99;law see 90-hard*9+age-many*20;law keep 100-many;");
-        for (int i = 0; i < 12; i++) {
+        for (int i = 0; i < 9; i++) {
             g.place(2, 1, 1, 20, 0);
             g.later(30, 0);
             g.tears(2, 50);
