@@ -19,6 +19,8 @@ public final class GardenBoundsTest {
         lawsAsked();
         valueLimits();
         divisions();
+        comparisons();
+        manyOfHide();
         hiding();
         hidingUpToSixteen();
         taking();
@@ -33,6 +35,7 @@ public final class GardenBoundsTest {
         lines();
         ownColors();
         luck();
+        sixteenEggs();
         Check.end();
     }
 
@@ -292,9 +295,55 @@ public final class GardenBoundsTest {
         value("(0-9)/2", -4);
         value("9/(0-2)", -4);
         value("(0-9)/(0-2)", 4);
+        value("0 and 5", 0);
+        value("5 and 0", 0);
+        value("1 and 1", 1);
         value("(0-1)and(0-1)", 1);
         value("(0-1)or 0", 1);
         value("not(0-1)", 0);
+    }
+
+    /** Each sign with less, as much and more; it binds looser than + and *, faster than not, and, or. */
+    private static void comparisons() {
+        String[] signs = {"<", "<=", "=", "<>", ">=", ">"};
+        int[] less = {1, 1, 0, 1, 0, 0};
+        int[] same = {0, 1, 1, 0, 1, 0};
+        int[] more = {0, 0, 0, 1, 1, 1};
+        for (int i = 0; i < signs.length; i++) {
+            String sign = signs[i];
+            value("2" + sign + "3", less[i]);
+            value("2" + sign + "2", same[i]);
+            value("3" + sign + "2", more[i]);
+            value("3" + sign + "1+1", more[i]);
+            value("1+1" + sign + "3", less[i]);
+            value("2*3" + sign + "3*2", same[i]);
+            value("9/3" + sign + "3-0", same[i]);
+            value("not 2" + sign + "3", 1 - less[i]);
+            value("not 2" + sign + "2", 1 - same[i]);
+            value("not 3" + sign + "2", 1 - more[i]);
+            value("0 or 2" + sign + "3", less[i]);
+            value("2 and 3" + sign + "2", more[i]);
+            value("2" + sign + "3 and 2" + sign + "3", less[i]);
+        }
+        value("2-1-1", 0);
+        value("8/4/2", 1);
+        value("8/4*2", 4);
+        value("8*4/2", 16);
+        value("2+3*4-6/2", 11);
+    }
+
+    /** Of hide many is 0, whatever was asked ahead. */
+    private static void manyOfHide() {
+        EggGarden g = Check.garden("garden 1 1;egg red 0 0 0;egg red 0 0 0;child a 0 0 9 0 0;law see 100;law keep 50;"
+                + "law hide age+hard+color+mine+many;");
+        g.go(1);
+        Check.due("it has two", g.child(0, 1), 2);
+        Check.due("see", g.law(0, 0, 0), 100);
+        Check.due("hide behind see", g.law(2, 0, 0), 0);
+        Check.due("keep", g.law(3, 0, 0), 50);
+        Check.due("hide behind keep", g.law(2, 0, 0), 0);
+        Check.due("odds", g.odds(0, 1), 100);
+        Check.due("hide behind odds", g.law(2, 0, 0), 0);
     }
 
     private static void hiding() {
@@ -634,5 +683,39 @@ public final class GardenBoundsTest {
             Check.due("SURE by ODDS " + odds, g.tried(1, 0, 200), odds >= 50 ? 1 : 0);
             Check.due("SURE by ODDS " + odds, g.tried(1, 0, 1), odds >= 50 ? 1 : 0);
         }
+    }
+
+    /** All that goes through the EGGS goes through sixteen. */
+    private static void sixteenEggs() {
+        EggGarden g = Check.garden("garden 2 1;dog 1;sun 3;child a 0 0 9 0 99;child b 0 0 9 0 99;seed 6;");
+        for (int i = 0; i < 15; i++) {
+            g.hide(1, i % 4, 9);
+        }
+        g.hide(0, 3, 9);
+        Check.due("HIDDEN at 1", g.cell(1, 1), 15);
+        Check.due("HIDDEN at 0", g.cell(0, 1), 1);
+        Check.due("nobody's", g.shared(15), -2);
+        Check.due("no trade", g.trade(0), -2);
+        long number = 6;
+        int[] left = {1, 15};
+        for (int t = 0; t < 3; t++) {
+            if (t > 0) {
+                number = (number * 1103515245L + 12345L) & 0x7fffffffL;
+                int cell = (int) (number / 65536 % 2);
+                left[cell] -= left[cell] > 0 ? 1 : 0;
+            }
+            g.go(1);
+            Check.due("HIDDEN at 0", g.cell(0, 1), left[0]);
+            Check.due("HIDDEN at 1", g.cell(1, 1), left[1]);
+        }
+        g.go(5);
+        Check.due("all are gone", g.count(8) + g.count(9), 16);
+        Check.due("the last is gone", g.egg(15, 3) < -1, true);
+        EggGarden far = Check.garden("garden 2 1;dog 1;");
+        for (int i = 0; i < 16; i++) {
+            far.hide(0, 0, 0);
+        }
+        far.go(200);
+        Check.due("the dog took all and came again", far.count(8), 16);
     }
 }

@@ -26,6 +26,7 @@ public final class MemoryBoundsTest {
         undoingAsked();
         undoingAtMostTwenty();
         undoingOfEach();
+        undoingOfMany();
         undoingBehindSeconds();
         keeping();
         goingBack();
@@ -470,6 +471,45 @@ public final class MemoryBoundsTest {
         Check.due("undo at sixteen", full.undo(), 16);
         Check.due("sixteen", full.count(2), 16);
         Check.due("the last", full.egg(15, 0), 15);
+    }
+
+    private static String told(EggGarden g) {
+        StringBuilder all = new StringBuilder();
+        all.append(g.count(11));
+        for (int child = 0; child < 2; child++) {
+            all.append(' ').append(g.child(child, 0));
+        }
+        int eggs = g.count(2);
+        for (int egg = 0; egg < eggs; egg++) {
+            all.append(' ').append(g.egg(egg, 0)).append(g.egg(egg, 1)).append(g.egg(egg, 2));
+        }
+        return all.toString();
+    }
+
+    /** More than twenty of all four sorts: each of the latest twenty is undone to what was ahead of it. */
+    private static void undoingOfMany() {
+        for (int seed = 0; seed < 20; seed++) {
+            java.util.Random random = new java.util.Random(seed);
+            EggGarden g = Check.garden("garden 3 2;child a 0 0 9 0 0;child b 2 1 9 0 0;");
+            java.util.List<String> ahead = new java.util.ArrayList<>();
+            String before = told(g);
+            while (ahead.size() < 24) {
+                int dice = random.nextInt(5);
+                boolean did = dice == 0 ? g.rule(random.nextInt(3))
+                        : dice == 1 ? g.set(random.nextInt(2), random.nextInt(6))
+                        : dice == 2 || g.count(2) > 1 ? g.take()
+                        : g.hide(random.nextInt(6), random.nextInt(4), random.nextInt(10)) >= 0;
+                if (did) {
+                    ahead.add(before);
+                    before = told(g);
+                }
+            }
+            for (int left = 19; left >= 0; left--) {
+                Check.due("undo", g.undo(), left);
+                Check.due("as it was ahead of it", told(g).equals(ahead.get(4 + left)), true);
+            }
+            Check.due("none is left", g.undo(), EggGarden.NONE);
+        }
     }
 
     private static void undoingBehindSeconds() {

@@ -28,6 +28,8 @@ public final class TextBoundsTest {
         feeding();
         textsOfTheTape();
         aTextMakesAllNew();
+        textsOneBehindAnother();
+        textsBehindFaults();
         faultsAsked();
         namesAsked();
         Check.end();
@@ -109,16 +111,22 @@ public final class TextBoundsTest {
 
     /** What holds without a LINE: 6 and 5, rule 0, line 0, no dog, no sun, seed 0. */
     private static void withoutLines() {
-        EggGarden g = Check.garden("egg red 0 0 5;child a 0 0 9 0 0;");
+        String eggs = "egg red 0 0 5;".repeat(6);
+        EggGarden g = Check.garden(eggs + "child a 0 0 9 0 0;");
         Check.due("wide", g.count(0), 6);
         Check.due("high", g.count(1), 5);
         Check.due("rule", g.count(11), 0);
-        EggGarden told = Check.garden("garden 6 5;egg red 0 0 5;child a 0 0 9 0 0;rule free;line 0;seed 0;");
+        EggGarden told = Check.garden("garden 6 5;" + eggs + "child a 0 0 9 0 0;rule free;line 0;seed 0;");
+        EggGarden other = Check.garden(eggs + "child a 0 0 9 0 0;seed 1;");
+        boolean same = true;
         for (int t = 0; t < 6; t++) {
             g.go(1);
             told.go(1);
-            Check.due("seed 0 without", g.egg(0, 3), told.egg(0, 3));
+            other.go(1);
+            Check.due("seed 0 without", g.child(0, 2), told.child(0, 2));
+            same &= g.child(0, 2) == other.child(0, 2);
         }
+        Check.due("seed 1 is another", same, false);
         EggGarden line = Check.garden("rule behind;child a 0 0 15 0 0;");
         Check.due("line 0 without", line.next(0), 0);
         EggGarden quiet = Check.garden("garden 1 1;egg red 0 0 0;");
@@ -312,6 +320,16 @@ public final class TextBoundsTest {
                 Check.fault("law see " + word + ";", 1, word.equals("not") ? 11 : 8);
             }
         }
+        for (String word : WORDS) {
+            EggGarden g = new EggGarden();
+            boolean law = java.util.List.of("see", "hide", "joy", "keep").contains(word);
+            Check.due("law " + word, Check.tell(g, "law " + word + " 1;"), law ? 1 : EggGarden.NONE);
+            Check.due("law " + word, g.fault(1), law ? EggGarden.NONE : 4);
+            boolean color = java.util.List.of("red", "blue", "green", "gold").contains(word);
+            Check.due("egg " + word, Check.tell(g, "egg " + word + " 0 0 1;"), color ? 1 : EggGarden.NONE);
+            boolean rule = java.util.List.of("free", "own", "behind").contains(word);
+            Check.due("rule " + word, Check.tell(g, "rule " + word + ";"), rule ? 1 : EggGarden.NONE);
+        }
         for (String color : new String[] {"red", "blue", "green", "gold"}) {
             Check.garden("egg " + color + " 0 0 0;");
             Check.fault("egg " + color + "s 0 0 0;", 1, 4);
@@ -405,6 +423,13 @@ public final class TextBoundsTest {
         Check.fault("law see 1<(2)<3;", 1, 13);
         Check.fault("law see 1<2+3*4<5;", 1, 15);
         Check.fault("law see 1<2 and 3<4<5;", 1, 19);
+        for (String first : taken) {
+            for (String second : taken) {
+                Check.fault("law see 1" + first + "2" + second + "3;", 1, 10 + first.length());
+            }
+        }
+        // A bracket begins an E of its own, wherever it stands.
+        Check.garden("law see 1+(not 2);law hide 1<(not 2<3);law joy not(not(3));");
         Check.garden("law see (1<2)<(3<4);law hide 1<2 and 3<4 or 5<6;");
     }
 
@@ -519,6 +544,45 @@ public final class TextBoundsTest {
         EggGarden first = new EggGarden();
         Check.due("a text", Check.tell(first, Trace.TEXT) > 0, true);
         Check.due("the same text is the same garden", Trace.all(again).equals(Trace.all(first)), true);
+    }
+
+    /** Nothing of a TEXT ahead goes on: KINDS, CELLS, rule, line, dog, sun, seed, laws, and what is counted. */
+    private static void textsOneBehindAnother() {
+        String full = "garden 8 6;" + things(16, "tree", "pot", "bush")
+                + "egg gold 0 0 1;".repeat(4) + "child x 7 5 15 0 99;child y 7 5 15 0 99;child z 7 5 15 0 99;"
+                + "rule behind;line 6;dog 1;sun 1;seed 77;law see " + sum(15) + ";law hide " + sum(15) + ";law joy "
+                + sum(15) + ";law keep " + sum(15) + ";";
+        String plain = "egg red 0 0 5;egg blue 1 0 4;egg red 0 1 6;child a 0 0 9 1 0;child b 1 1 9 1 0;";
+        EggGarden g = new EggGarden();
+        for (int i = 0; i < 4; i++) {
+            Check.due("the same text again", Check.tell(g, full) > 0, true);
+        }
+        Check.due("the knots of one text", g.count(4), 60);
+        Check.due("a law's value", g.law(2, 0, 0), 8);
+        Check.due("a plain text", Check.tell(g, plain), 5);
+        Check.due("no law", g.law(2, 0, 0), Long.MIN_VALUE);
+        EggGarden fresh = Check.garden(plain);
+        Check.due("as of a new object", Trace.all(g).equals(Trace.all(fresh)), true);
+        EggGarden line = Check.garden(full);
+        Check.tell(line, "rule behind;child a 0 0 15 0 0;");
+        Check.due("line 0 without", line.next(0), 0);
+    }
+
+    /** Nothing of a TEXT with a FAULT goes on, either. */
+    private static void textsBehindFaults() {
+        String[] wrong = {"law see 1+((((((((", "law see 1+2*3<4 and not", "law see (1+(2*(3-#", "law see 1<2<3",
+            "garden 1 1;garden", "bush 0 0;egg red 0 0 0;child a 0 0 1 1 1;rule own;line 1;dog 1;sun 0;seed 5;#"};
+        String plain = "law hide 1+kind*2;egg red 0 0 5;egg blue 1 0 4;child a 0 0 9 1 0;law see not(1<2)or(3)*44;";
+        for (String text : wrong) {
+            EggGarden g = new EggGarden();
+            Check.due("text: " + text, Check.tell(g, text), EggGarden.NONE);
+            Check.due("a plain text", Check.tell(g, plain), 5);
+            Check.due("its hide", g.law(2, 0, 0), 1);
+            Check.due("its see", g.law(0, 0, 0), 1);
+            Check.due("its knots", g.count(4), 13);
+            EggGarden fresh = Check.garden(plain);
+            Check.due("as of a new object", Trace.all(g).equals(Trace.all(fresh)), true);
+        }
     }
 
     private static void faultsAsked() {

@@ -15,6 +15,9 @@ public final class ThoughtBoundsTest {
         placesTooFewCells();
         placesByTime();
         placesOfSeveral();
+        placesBesideSixteen();
+        placesByAllLooks();
+        placesByLaws();
         latersAsked();
         latersOfTheOldest();
         tearsAsked();
@@ -233,6 +236,64 @@ public final class ThoughtBoundsTest {
         Check.due("the last two", last.place(2, 0, 0, 1, 2), 47);
     }
 
+    /** The new ones come beside sixteen that are there. */
+    private static void placesBesideSixteen() {
+        EggGarden g = Check.garden("garden 8 6;child a 0 0 9 0 0;child b 6 5 9 0 0;child c 7 5 9 0 0;");
+        for (int i = 0; i < 14; i++) {
+            g.hide(1 + i, 0, 9);
+        }
+        g.hide(0, 0, 0);
+        g.hide(0, 0, 0);
+        Check.due("sixteen", g.count(2), 16);
+        Check.due("a has 2, b and c one each", g.place(2, 0, 0, 1, 0), 1);
+        Check.due("where b is", g.place(2, 0, 0, 1, 1), 46);
+        Check.due("where c is", g.place(2, 0, 0, 1, 2), 47);
+        Check.due("one is too few", g.place(1, 0, 0, 1, 0), 2);
+        Check.due("sixteen still", g.count(2), 16);
+    }
+
+    private static void placesByAllLooks() {
+        // Four CHILDREN look in 40 SECONDS each, and the sun shines.
+        EggGarden most = Check.garden("garden 8 6;child a 0 0 9 3 0;child b 7 5 9 3 0;child c 7 0 9 3 0;child d 0 5 9 3 0;"
+                + "sun 39;");
+        Check.due("in all four corners at once", most.place(2, 0, 0, 40, 0), 1);
+        EggGarden sun = Check.garden("garden 2 1;child a 0 0 9 0 0;child b 0 0 9 0 0;child c 0 0 9 0 0;child d 0 0 9 0 0;"
+                + "sun 0;");
+        Check.due("only where they stand it is found", sun.place(1, 0, 0, 40, 1), 1);
+        // Nobody looks at 0: the first CELL is as good as any where nobody finds it.
+        EggGarden away = Check.garden("garden 3 1;child a 2 0 9 0 0;child b 1 0 9 0 0;");
+        Check.due("nobody is at 0", away.place(1, 0, 0, 40, 0), 0);
+        Check.due("nobody is at 0", away.place(1, 0, 0, 40, 1), 0);
+        // What is found once isn't found again, though a hard one stays beside it.
+        EggGarden twice = Check.garden("garden 3 1;egg red 0 0 0;egg red 0 0 9;child a 0 0 9 0 0;child b 1 0 9 0 0;");
+        Check.due("one each", twice.place(1, 0, 0, 40, 0), 0);
+        Check.due("where b is", twice.place(1, 0, 0, 40, 1), 1);
+    }
+
+    private static void placesByLaws() {
+        for (int odds : new int[] {49, 50}) {
+            EggGarden g = Check.garden("garden 2 1;child a 0 0 9 0 0;child b 1 0 9 0 0;law see " + odds + "*(hard=3);"
+                    + "egg red 0 0 3;");
+            Check.due("one each by ODDS " + odds, g.place(1, 0, 3, 1, 1), odds == 50 ? 1 : 0);
+            Check.due("unlike by ODDS " + odds, g.place(1, 0, 3, 1, 0), 0);
+            Check.due("too hard by ODDS " + odds, g.place(1, 0, 2, 1, 0), odds == 50 ? 1 : 0);
+        }
+        // By AGE, by one's own colour, by how many one has, by KIND and row.
+        EggGarden age = Check.garden("garden 2 1;egg red 0 0 0;child a 0 0 9 0 0;child b 1 0 5 0 0;law see 50*(age=9);");
+        Check.due("b sees none", age.place(1, 0, 0, 9, 0), 1);
+        EggGarden own = Check.garden("garden 2 1;egg red 0 0 0;child a 0 0 9 0 0;child b 1 0 5 0 0;law see 50*mine;");
+        Check.due("red isn't b's", own.place(1, 0, 0, 9, 0), 1);
+        Check.due("blue is", own.place(1, 1, 0, 9, 0), 0);
+        EggGarden row = Check.garden("garden 1 3;egg red 0 0 0;child a 0 0 9 0 0;child b 0 2 5 0 0;law see 50*(row<>2);");
+        Check.due("b sees none in row 2", row.place(1, 0, 0, 9, 0), 1);
+        // An object that was asked by another TEXT ahead.
+        EggGarden again = Check.garden("garden 2 1;egg red 0 0 0;child a 0 0 9 0 0;child b 1 0 9 0 0;law see 100;");
+        Check.due("one each", again.place(1, 0, 0, 1, 1), 1);
+        Check.tell(again, "garden 2 1;egg red 0 0 0;child a 0 0 9 0 0;child b 1 0 9 0 0;law see 0;");
+        Check.due("none", again.place(1, 0, 0, 1, 1), 0);
+        Check.due("none", again.place(1, 0, 0, 1, 0), 0);
+    }
+
     private static void latersAsked() {
         for (int t : new int[] {-1, 0, 201, LEAST, MOST}) {
             Trace.none("later(" + t + ", 0)", g -> g.later(t, 0), EggGarden.NONE);
@@ -268,6 +329,10 @@ public final class ThoughtBoundsTest {
                 + "law see 100-100*many*mine;");
         Check.due("of several the first", first.later(9, 0), 2);
         Check.due("of several the first", first.later(9, 1), 0);
+        EggGarden four = Check.garden("garden 1 1;egg gold 0 0 0;egg gold 0 0 0;egg gold 0 0 0;egg gold 0 0 0;"
+                + "child a 0 0 5 0 3;child b 0 0 5 0 3;child c 0 0 5 0 3;child d 0 0 9 0 0;law see 100-100*many*(age<9);");
+        Check.due("the fourth is the oldest", four.later(9, 0), 3);
+        Check.due("the fourth is the oldest", four.later(9, 1), 0);
         EggGarden other = Check.garden("garden 1 1;egg red 0 0 0;child a 0 0 15 0 99;child b 0 0 14 0 0;");
         Check.due("the fewest of several", other.later(200, 0), 0);
     }
@@ -493,6 +558,17 @@ public final class ThoughtBoundsTest {
         for (int what = 0; what < 4; what++) {
             Check.due("trade(" + what + ") of the last ones", last.trade(what), want[what]);
         }
+        // The first EGG may be the second CHILD's; what is HIDDEN is nobody's to swap.
+        EggGarden zero = Check.garden("garden 3 1;egg red 1 0 0;egg blue 0 0 0;egg red 2 0 0;child a 0 0 9 0 0;"
+                + "child b 1 0 9 0 0;");
+        zero.go(1);
+        int[] swap = {0, 1, 1, 0};
+        for (int what = 0; what < 4; what++) {
+            Check.due("trade(" + what + ") with EGG 0", zero.trade(what), swap[what]);
+        }
+        EggGarden hidden = Check.garden("garden 3 1;egg blue 0 0 0;egg red 2 0 0;child a 0 0 9 0 0;child b 1 0 9 0 0;");
+        hidden.go(1);
+        Check.due("red is HIDDEN", hidden.trade(0), -2);
         // Both must have more: as much is not enough for either.
         String two = "garden 2 1;egg blue 0 0 0;egg red 1 0 0;child a 0 0 9 0 0;child b 1 0 9 0 0;";
         int[][] worth = {{6, 5, 6, 5, 0}, {5, 5, 6, 5, -2}, {6, 5, 5, 5, -2}, {5, 6, 6, 5, -2}, {6, 5, 5, 6, -2}};
