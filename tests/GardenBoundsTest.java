@@ -328,7 +328,8 @@ public final class GardenBoundsTest {
         value("2-1-1", 0);
         value("8/4/2", 1);
         value("8/4*2", 4);
-        value("8*4/2", 16);
+        value("7*3/2", 10);
+        value("7/2*3", 9);
         value("2+3*4-6/2", 11);
     }
 

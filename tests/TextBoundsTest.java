@@ -566,6 +566,14 @@ public final class TextBoundsTest {
         EggGarden line = Check.garden(full);
         Check.tell(line, "rule behind;child a 0 0 15 0 0;");
         Check.due("line 0 without", line.next(0), 0);
+        EggGarden dog = Check.garden(full);
+        Check.tell(dog, "garden 1 1;egg red 0 0 9;");
+        dog.go(9);
+        Check.due("no dog, no sun without", dog.egg(0, 3), -1);
+        EggGarden mixed = Check.garden(plain);
+        Check.due("a text of none", mixed.text(0), 0);
+        Check.due("no eggs", mixed.count(2), 0);
+        Check.due("no children", mixed.count(3), 0);
     }
 
     /** Nothing of a TEXT with a FAULT goes on, either. */
